@@ -187,15 +187,16 @@ public final class SpoolRows {
         if (o == null) {
             return WRONG_STATE;
         }
-        // The document says of every cut that it goes back, so also of one that then purges.
-        int sinceCheckpoint = o.printed % PAGES_TO_CHECKPOINT;
-        o.printed -= sinceCheckpoint;
-        pagesAgain += sinceCheckpoint;
+        int checkpoint = o.lastCheckpoint();
+        // Nothing of a purged output is printed again, so what was printed of it stays so.
         if (o.purgeWaits) {
             w.taken = null;
             letGo(o, PURGED);
+        } else {
+            pagesAgain += o.printed - checkpoint;
+            o.printed = checkpoint;
         }
-        return o.printed;
+        return checkpoint;
     }
 
     public int purge(int output) {
@@ -448,6 +449,10 @@ public final class SpoolRows {
 
         int pagesToPrint() {
             return pageCount() * copies - printed;
+        }
+
+        int lastCheckpoint() {
+            return printed - printed % PAGES_TO_CHECKPOINT;
         }
 
         int copiesLeft() {

@@ -3,6 +3,7 @@ public final class CountTest {
     public static void main(String[] args) {
         Due due = new Due();
         countsFollowTheCalls(due);
+        aCutThatPurgesLetsNoPageBePrintedAgain(due);
         wrongInputsAreNone(due);
         due.finish();
     }
@@ -39,6 +40,23 @@ public final class CountTest {
         rows(due, "when one is printed", x, 14, 1, 2, 14, 4);
         x.print(2, 2);
         rows(due, "when one is printed", x, 20, 0, 2, 16, 4);
+    }
+
+    private static void aCutThatPurgesLetsNoPageBePrintedAgain(Due due) {
+        SpoolRows x = new SpoolRows(20);
+        Due.printing(x, 1, 1, 48);
+        Due.printing(x, 2, 1, 48);
+        x.print(1, 3);
+        x.print(2, 5);
+        x.purge(1);
+        x.cut(1);
+        rows(due, "after a cut that purges", x, 14, 1, 2, 8, 0);
+        x.cut(2);
+        rows(due, "after a cut of the other", x, 14, 1, 2, 8, 1);
+        x.print(2, 2);
+        x.purge(2);
+        x.cut(2);
+        rows(due, "after a cut that purges it, too", x, 20, 0, 2, 10, 1);
     }
 
     private static void wrongInputsAreNone(Due due) {

@@ -5,6 +5,8 @@ public final class CutTest {
         checkpointsAtEveryFourthPage(due);
         itGoesOnFromThere(due);
         aWaitingPurgeIsDone(due);
+        aCutThatPurgesTakesNoPageBack(due);
+        aCutBeforeThePurgeStillCounts(due);
         idleOrWrong(due);
         due.finish();
     }
@@ -54,14 +56,43 @@ public final class CutTest {
         due.is("lines that are found", x.search(65), 0);
         due.is("the order", x.order(0), 0);
         due.is("pages printed by all", x.count(3), 6);
-        // The document says of every cut that it goes back: this one does so before it purges.
-        due.is("pages printed of it", x.state(1, 3), 4);
-        due.is("pages that the cut let be printed again", x.count(4), 2);
+        // Nothing of a purged output is printed again, so its pages stay printed.
+        due.is("pages printed of it", x.state(1, 3), 6);
+        due.is("pages that the cut let be printed again", x.count(4), 0);
         due.is("the writer is idle", x.cut(1), -2);
         Due.released(x, 1, 1, 1);
         due.is("it takes the next", x.next(1), 2);
         due.is("whose purging does not wait", x.cut(1), 0);
         due.is("so that it prints on", x.state(2, 0), 3);
+    }
+
+    private static void aCutThatPurgesTakesNoPageBack(Due due) {
+        for (int printed = 0; printed < 18; printed++) {
+            SpoolRows x = new SpoolRows(16);
+            Due.printing(x, 1, 9, 16);
+            x.print(1, printed);
+            x.purge(1);
+            due.is("cut(1) that purges after " + printed + " pages", x.cut(1), printed / 4 * 4);
+            due.is("it is purged", x.state(1, 0), 5);
+            due.is("pages printed of it stay", x.state(1, 3), printed);
+            due.is("copies left of it stay", x.state(1, 5), 9 - printed / 2);
+            due.is("no page is printed again", x.count(4), 0);
+            due.is("pages printed by all", x.count(3), printed);
+        }
+    }
+
+    private static void aCutBeforeThePurgeStillCounts(Due due) {
+        SpoolRows x = new SpoolRows(16);
+        Due.printing(x, 1, 1, 80);
+        x.print(1, 7);
+        x.cut(1);
+        x.print(1, 1);
+        x.purge(1);
+        x.print(1, 1);
+        due.is("cut(1) that purges", x.cut(1), 4);
+        due.is("pages printed of it", x.state(1, 3), 6);
+        due.is("pages of the first cut alone", x.count(4), 3);
+        due.is("pages printed by all", x.count(3), 9);
     }
 
     private static void idleOrWrong(Due due) {

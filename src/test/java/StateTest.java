@@ -4,6 +4,7 @@ public final class StateTest {
         Due due = new Due();
         throughItsLife(due);
         purgedOnes(due);
+        onePurgedByACut(due);
         wrongInputsAreNone(due);
         due.finish();
     }
@@ -47,6 +48,16 @@ public final class StateTest {
         rows(due, "when it is purged without lines", x, 1, 5, 0, 0, 0, 5, 9);
         x.purge(Due.open(x, 5, 9, 9));
         rows(due, "when it is purged with lines", x, 2, 5, 9, 2, 0, 5, 9);
+    }
+
+    private static void onePurgedByACut(Due due) {
+        SpoolRows x = new SpoolRows(16);
+        Due.printing(x, 7, 3, 17);
+        x.print(1, 6);
+        x.purge(1);
+        rows(due, "when its purging waits", x, 1, 3, 17, 3, 6, 7, 1);
+        x.cut(1);
+        rows(due, "when a cut purged it", x, 1, 5, 17, 3, 6, 7, 1);
     }
 
     private static void wrongInputsAreNone(Due due) {
