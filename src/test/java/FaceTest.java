@@ -5,7 +5,7 @@ import java.lang.reflect.Modifier;
 import java.util.Set;
 import java.util.TreeSet;
 
-/** The class shows the document's face and nothing beside it. */
+/** The public face, promises 1 to 17: the class shows "public final class SpoolRows" and nothing beside it. */
 public final class FaceTest {
     private static final Set<String> FACE = Set.of(
             "output(int,int,int)", "line(int,int)", "limit(int,int,boolean)", "end(int)", "segment(int)",

@@ -1,26 +1,34 @@
 import java.util.Random;
 
-/** Runs of many calls with right and wrong arguments: none throws, and what the document says of all states holds. */
+/** Promises 1 to 17: in runs of right and wrong calls none throws, and what the document says of all states holds. */
 public final class WildRunsTest {
+    // The calls that look at the whole spool afterwards belong to the 512, too.
+    private static final int CALLS_OF_A_RUN = 250;
     private static final int[] EDGES = {Integer.MIN_VALUE, -257, -1, 0, 1, 8, 9, 64, 255, 256, 1000, 1001, 34047,
         34048, 65536, Integer.MAX_VALUE};
 
     public static void main(String[] args) {
         Due due = new Due();
-        for (int seed = 0; seed < 400; seed++) {
+        runsWithinTheCalls(due);
+        beyondTheLastPromisedCall(due);
+        moreArePrintedThanCallsAllow(due);
+        due.finish();
+    }
+
+    /** Promises 16 and 17: "Of an output", "free pages" and the like: what they tell agrees with each other. */
+    private static void runsWithinTheCalls(Due due) {
+        for (int seed = 0; seed < 800; seed++) {
             Random random = new Random(seed);
             int room = random.nextInt(24);
             SpoolRows x = new SpoolRows(room);
-            for (int i = 0; i < 500; i++) {
+            for (int i = 0; i < CALLS_OF_A_RUN; i++) {
                 call(x, random, random.nextInt(10) == 0);
             }
             checkWhole(due, "seed " + seed, x, room);
         }
-        beyondTheLastPromisedCall(due);
-        due.finish();
     }
 
-    // Far more calls than 512: what they answer is free, but they must answer.
+    /** What it is: "what later calls answer is free", but they must answer. */
     private static void beyondTheLastPromisedCall(Due due) {
         Random random = new Random(1);
         SpoolRows x = new SpoolRows(65536);
@@ -31,6 +39,23 @@ public final class WildRunsTest {
         SpoolRows full = new SpoolRows(65536);
         Due.open(full, 1, 9, 20000);
         due.holds("a spool after 20000 lines", full.search(65) >= 510 && full.state(1, 1) >= 510);
+    }
+
+    /** What it is: "what later calls answer is free", but they must answer, also when every output is printed. */
+    private static void moreArePrintedThanCallsAllow(Due due) {
+        SpoolRows x = new SpoolRows(1);
+        x.writer(8);
+        for (int i = 1; i <= 1001; i++) {
+            x.output(1, 0, 1);
+            x.line(i, 0);
+            x.end(1);
+            x.next(1);
+            x.print(1, 1);
+        }
+        for (int i = 990; i <= 1010; i++) {
+            due.holds("order(" + i + ")", x.order(i) >= 0 && x.order(i) <= 1000);
+        }
+        due.holds("a spool of printed outputs", x.search(65) >= 0 && x.count(1) >= 0 && x.output(1, 0, 1) == 0);
     }
 
     private static int number(Random random, boolean wild, int least, int most) {
