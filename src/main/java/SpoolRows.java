@@ -56,10 +56,11 @@ public final class SpoolRows {
         if (!isWithin(job, 1, MOST_JOB) || !isWithin(c, 0, CLASSES - 1) || !isWithin(copies, 1, MOST_COPIES)) {
             return NONE;
         }
-        if (outputCount >= MOST_OUTPUTS || (freePages <= reserved && !hasOutputThere(job))) {
+        if (freePages <= reserved && !hasOutputThere(job)) {
             return 0;
         }
-        return addOutput(job, c, copies).number;
+        Output o = addOutput(job, c, copies);
+        return o == null ? 0 : o.number;
     }
 
     public int line(int output, int n) {
@@ -97,9 +98,9 @@ public final class SpoolRows {
 
     public int end(int job) {
         int open = 0;
-        for (int i = 0; i < outputCount; i++) {
-            Output o = outputs[i];
-            if (o.job == job && o.state == OPEN) {
+        for (int number = 1; number <= outputCount; number++) {
+            Output o = outputOf(number);
+            if (o != null && o.job == job && o.state == OPEN) {
                 open++;
                 releaseOrPurge(o);
             }
@@ -115,10 +116,10 @@ public final class SpoolRows {
         if (o.state != OPEN || o.lines == 0) {
             return WRONG_STATE;
         }
-        if (outputCount >= MOST_OUTPUTS) {
+        Output further = addOutput(o.job, o.kind, o.copies);
+        if (further == null) {
             return 0;
         }
-        Output further = addOutput(o.job, o.kind, o.copies);
         further.takeSettingsOf(o);
         o.state = RELEASED;
         return further.number;
@@ -317,8 +318,9 @@ public final class SpoolRows {
     }
 
     private boolean hasOutputThere(int job) {
-        for (int i = 0; i < outputCount; i++) {
-            if (outputs[i].job == job && !outputs[i].isGone()) {
+        for (int number = 1; number <= outputCount; number++) {
+            Output o = outputOf(number);
+            if (o != null && o.job == job && !o.isGone()) {
                 return true;
             }
         }
@@ -327,16 +329,19 @@ public final class SpoolRows {
 
     private int outputsThere() {
         int there = 0;
-        for (int i = 0; i < outputCount; i++) {
-            if (!outputs[i].isGone()) {
+        for (int number = 1; number <= outputCount; number++) {
+            if (isThere(number)) {
                 there++;
             }
         }
         return there;
     }
 
-    // Callers see first that the row of outputs is not full.
+    // Answers null when there are as many as there may be.
     private Output addOutput(int job, int kind, int copies) {
+        if (outputCount >= MOST_OUTPUTS) {
+            return null;
+        }
         Output o = new Output(outputCount + 1, job, kind, copies);
         outputs[outputCount] = o;
         outputCount++;
@@ -344,8 +349,7 @@ public final class SpoolRows {
     }
 
     private boolean hasRoomForLine(Output o) {
-        // The row of lines can be full only after the last call that the document promises.
-        return keptLines < MOST_KEPT_LINES && (freePages > 0 || !o.needsPage());
+        return freePages > 0 || !o.needsPage();
     }
 
     private void takeLine(Output o, int n) {
@@ -355,8 +359,15 @@ public final class SpoolRows {
         o.lines++;
         // A line of length 0 is never found, so its sign need not be kept.
         if (n / SIGNS > 0) {
-            lineSigns[keptLines] = n % SIGNS;
-            lineOutputs[keptLines] = o.number;
+            keepSign(n % SIGNS, o.number);
+        }
+    }
+
+    // The rows can be full only after the last call that the document promises.
+    private void keepSign(int sign, int output) {
+        if (keptLines < MOST_KEPT_LINES) {
+            lineSigns[keptLines] = sign;
+            lineOutputs[keptLines] = output;
             keptLines++;
         }
     }
@@ -384,9 +395,9 @@ public final class SpoolRows {
 
     private Output firstFor(Writer w) {
         Output first = null;
-        for (int i = 0; i < outputCount; i++) {
-            Output o = outputs[i];
-            if (o.mayBePrinted() && w.suits(o) && (first == null || o.comesBefore(first))) {
+        for (int number = 1; number <= outputCount; number++) {
+            Output o = outputOf(number);
+            if (o != null && o.mayBePrinted() && w.suits(o) && (first == null || o.comesBefore(first))) {
                 first = o;
             }
         }

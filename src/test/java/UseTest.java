@@ -1,13 +1,31 @@
-/** What it is: an object holds all that its 512 calls can bring. */
+/** What it is: the README's way of use, and that an object holds all that its 512 calls can bring. */
 public final class UseTest {
     public static void main(String[] args) {
         Due due = new Due();
+        theExampleOfTheReadme(due);
         asManyLinesAsCalls(due);
         asManyOutputsAsCalls(due);
         asManySegmentsAsCalls(due);
         asManyPrintedAsCalls(due);
         asManyCutsAsCalls(due);
         due.finish();
+    }
+
+    /** README.md, "Use": each call of its example, with the answer that it tells there. */
+    private static void theExampleOfTheReadme(Due due) {
+        SpoolRows spool = new SpoolRows(16);
+        int output = spool.output(7, 1, 2);
+        due.is("output(7, 1, 2)", output, 1);
+        due.is("line(output, 80 * 256 + 'A')", spool.line(output, 80 * 256 + 'A'), 1);
+        due.is("search('A')", spool.search('A'), 1);
+        due.is("end(7)", spool.end(7), 1);
+        int writer = spool.writer(8);
+        due.is("writer(8)", writer, 1);
+        due.is("next(writer)", spool.next(writer), 1);
+        due.is("print(writer, 10)", spool.print(writer, 10), 2);
+        due.is("order(0)", spool.order(0), 1);
+        due.is("state(output, 0)", spool.state(output, 0), 4);
+        due.is("count(0)", spool.count(0), 16);
     }
 
     /** Promises 3 and 14; What it is: "An object is used for at most 512 calls after it has been made". */
